@@ -485,9 +485,16 @@ public final class SubstitutionMachine {
         }
 
         void addRange(Term source, int start, int end) {
-            for (int i = start; i < end; i++) {
-                add(source.token(i));
+            if (start < 0 || start > end || end > source.length) {
+                return;
             }
+            int added = end - start;
+            if (added > TERM_LIMIT - length) {
+                tooLarge = true;
+                return;
+            }
+            System.arraycopy(source.tokens, start, tokens, length, added);
+            length += added;
         }
 
         void copyFrom(Term source) {
@@ -793,9 +800,18 @@ public final class SubstitutionMachine {
         }
 
         void addRange(Extended source, int start, int end) {
-            for (int i = start; i < end && !tooLarge; i++) {
-                put(source.token(i), source.entriesAt(i), source.shiftAt(i));
+            if (start < 0 || start > end || end > source.length) {
+                return;
             }
+            int added = end - start;
+            if (added > EXTENDED_LIMIT - length) {
+                tooLarge = true;
+                return;
+            }
+            System.arraycopy(source.tokens, start, tokens, length, added);
+            System.arraycopy(source.entries, start, entries, length, added);
+            System.arraycopy(source.shifts, start, shifts, length, added);
+            length += added;
         }
 
         /** The position behind a number of subterms that stand one after another. */

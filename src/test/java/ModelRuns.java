@@ -476,7 +476,7 @@ public final class ModelRuns {
 
     static final String[] TEXTS = {
         "@L@00L@00", "@L@@000L@@000", "LL@1@10", "LL@1@1@10", "LLLL@@31@@210", "LLL@2@@210", "LL1", "L0",
-        "LLL@@20@10", "@@LL1 0".replace(" ", ""), "L@@@0LL@0LLL@2@@210LL0L0", "@LL@10@LL@10LL@10", "@@LL@1@10LL@1@100",
+        "LLL@@20@10", "@@LL101", "L@@@0LL@0LLL@2@@210LL0L0", "@LL@10@LL@10LL@10", "@@LL@1@10LL@1@100",
         "L@L@1@00L@1@00", "@L@@0LLL@2@@210LL0LL@1@1@10", "LLLLL4", "@L@0L1LL@1@9@28", "@LL@@102@34",
         "@@LL@1@1@10LL@1@10LL@1@10"};
 

@@ -324,6 +324,10 @@ public final class PromiseTests {
         due(16, "undo()", x.undo(), 1);
         due(16, "undo()", x.undo(), 0);
         dueTerm(16, "undo()", x, "L@@01@23");
+        x = with("@0L1");
+        x.save(1);
+        due(16, "substitute(0, 1)", x.substitute(0, 1), 10);
+        dueTerm(16, "substitute(0, 1)", x, "@@0L1L@1L2");
         substituteToTheLimit();
     }
 
@@ -435,6 +439,13 @@ public final class PromiseTests {
         x.save(1);
         x.restore(0);
         due(22, "isEquivalent(1) of another size", x.isEquivalent(1), 0);
+        x = with("L@03");
+        x.save(0);
+        x.abstractTerm();
+        x.applyTo(0);
+        x.step(0);
+        dueTerm(22, "step(0)", x, "L@02");
+        due(22, "isEquivalent(0) of another last token", x.isEquivalent(0), 0);
         x = with("@L0" + TWO_HUNDRED_STEPS);
         x.save(0);
         due(22, "isEquivalent(0), both without a normal form", x.isEquivalent(0), NONE);
