@@ -28,7 +28,8 @@ public final class PromiseTests {
     /** The term as a text; an index above 9 stands in brackets. */
     private static String show(SubstitutionMachine x) {
         StringBuilder out = new StringBuilder();
-        for (int i = 0; i < x.size(); i++) {
+        int size = x.size();
+        for (int i = 0; i < size; i++) {
             int token = x.tokenAt(i);
             out.append(token == 1000 ? "@" : token == 1001 ? "L" : token > 9 ? "[" + token + "]" : "" + token);
         }
