@@ -125,6 +125,17 @@ public final class ActionEdges {
         x.restore(1);
         Check.due("substitute(0, 1)", x.substitute(0, 1), 19);
         Check.dueTerm("after substitute(0, 1)", x, "@1@L@@0@2@L@@023221");
+        x = Check.with("@1L@02");
+        x.save(0);
+        x.abstractTerm();
+        Check.due("substitute(0, 0), at two depths", x.substitute(0, 0), 17);
+        Check.dueTerm("after substitute(0, 0)", x, "L@@2L@03L@0@3L@04");
+        x = Check.with("L@@0LL31");
+        x.save(1);
+        x.abstractTerm();
+        x.applyTo(1);
+        Check.due("substitute(0, 1), behind abstractions", x.substitute(0, 1), 18 + 2 * 7);
+        Check.dueTerm("after substitute(0, 1)", x, "@LL@@0LL31L@@0LLL@@0LL64L@@0LL42");
     }
 
     private static void substituteEveryNumber() {

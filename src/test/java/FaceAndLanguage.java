@@ -64,9 +64,18 @@ public final class FaceAndLanguage {
         nested(c);
     }
 
+    private static void small(Class<?> c) {
+        int fields = 0;
+        for (Field f : c.getDeclaredFields()) fields += Modifier.isStatic(f.getModifiers()) ? 0 : 1;
+        due(c + " has some twenty fields", fields <= 20);
+        for (Method m : c.getDeclaredMethods()) due(m + " has at most seven parameters", m.getParameterCount() <= 7);
+    }
+
     private static void nested(Class<?> c) {
+        small(c);
         due("some twelve classes", c.getDeclaredClasses().length <= 11);
         for (Class<?> n : c.getDeclaredClasses()) {
+            small(n);
             int m = n.getModifiers();
             due(n + " is static", Modifier.isStatic(m));
             due(n + " is hidden", !Modifier.isPublic(m) && !Modifier.isProtected(m));

@@ -35,9 +35,33 @@ public final class MachineEdges {
         dueCounts("@0L0", new int[] {0, 0, 0, 0, 0}, 4);
     }
 
+    private static void betas() {
+        Check.says("Description", "BETA (0): an application of an abstraction with body b to an argument a becomes the"
+            + " closure with body b, the single entry a and shift 0.");
+        dueCounts("@L05", new int[] {1, 0, 0, 1, 0}, 4);
+        dueCounts("L@L05", new int[] {1, 0, 0, 1, 0}, 5);
+        dueCounts("@0@L0@L05", new int[] {2, 0, 0, 2, 0}, 9);
+        dueCounts(Check.CHAIN, new int[] {19, 0, 0, 19, 0}, 58);
+    }
+
+    private static void applies() {
+        Check.says("Description", "both closures have the entries and the shift of the old one.");
+        dueCounts("@L@005", new int[] {1, 1, 0, 2, 0}, 7);
+        dueCounts("@L@00@12", new int[] {1, 1, 0, 2, 0}, 11);
+        dueCounts("@L@@0005", new int[] {1, 2, 0, 3, 0}, 11);
+    }
+
+    private static void abstracts() {
+        Check.says("Description", "whose entries are the variable with index 0 and then, for each old entry e in order, the"
+            + " closure with body e, no entries and shift 1.");
+        dueCounts("@LL0@12", new int[] {1, 0, 1, 1, 0}, 8);
+        dueCounts("@LLL0@12", new int[] {1, 0, 2, 1, 0}, 12);
+        dueCounts("@LLLL0@12", new int[] {1, 0, 3, 1, 0}, 17);
+    }
+
     private static void lookups() {
-        Check.says("Description", "LOOKUP (3): a closure whose body is a variable becomes what it stands for: the entry or"
-            + " the variable.");
+        Check.says("Description", "variable i is replaced by entry i if i is less than n (the first entry is entry 0), and"
+            + " by the variable i - n + k otherwise.");
         dueCounts("@L05", new int[] {1, 0, 0, 1, 0}, 4);
         dueCounts("@L15", new int[] {1, 0, 0, 1, 0}, 4);
         dueCounts("@LL05", new int[] {1, 0, 1, 1, 0}, 6);
@@ -47,6 +71,19 @@ public final class MachineEdges {
         dueCounts("@LLL15", new int[] {1, 0, 2, 2, 0}, 10);
         dueCounts("@LLL25", 0, new int[] {1, 0, 2, 3, 0}, 10);
         dueCounts("@LLL25", 1, new int[] {1, 0, 2, 2, 1}, 10);
+    }
+
+    /** A redex behind the closure or in an outer one would be counted if a variable became an entry or another one. */
+    private static void lookupsBesideARedex() {
+        Check.says("Description", "LOOKUP (3): a closure whose body is a variable becomes what it stands for: the entry or"
+            + " the variable.");
+        dueCounts("@@L15@L07", new int[] {2, 0, 0, 2, 0}, 9);
+        dueCounts("@@LL05@L07", 0, new int[] {3, 0, 1, 3, 0}, 11);
+        dueCounts("@@LL05@L07", 1, new int[] {3, 0, 1, 3, 1}, 15);
+        dueCounts("@@LL15@L07", 0, new int[] {2, 0, 1, 3, 0}, 11);
+        dueCounts("@@LL15@L07", 1, new int[] {2, 0, 1, 2, 2}, 15);
+        dueCounts("@@LL25@L07", 0, new int[] {2, 0, 1, 2, 0}, 11);
+        dueCounts("@@LL25@L07", 1, new int[] {2, 0, 1, 1, 1}, 15);
     }
 
     private static void noEntries() {
@@ -74,6 +111,12 @@ public final class MachineEdges {
         Check.says("Description", "MERGE (4), only if merging is on");
         dueCounts("@L@L102", 1, new int[] {2, 1, 1, 2, 2}, 13);
         dueCounts("@@LL15" + Check.OMEGA, 1, new int[] {2, 0, 1, 2, 2}, 25);
+    }
+
+    private static void mergedShifts() {
+        Check.says("Description", "Its shift is j if k is less than m, and otherwise k - m + j.");
+        dueCounts("@LL@1@10LL1", 1, new int[] {3, 2, 5, 8, 8}, 21);
+        dueCounts("@LL@1@1@1@10LL1", 1, new int[] {5, 4, 9, 14, 21}, 31);
     }
 
     private static void smallestPosition() {
@@ -122,6 +165,41 @@ public final class MachineEdges {
             }
             x.undo();
             Check.due("machinePeak(" + merging + ") after undo()", x.machinePeak(merging), 300);
+        }
+    }
+
+    /** The text's term is applied to one of the given size, and abstractions are put around it. */
+    private static SubstitutionMachine appliedInside(String text, int size, int abstractions) {
+        SubstitutionMachine x = Check.applied(text, size);
+        Check.abstractTimes(x, abstractions);
+        return x;
+    }
+
+    /** The greatest extended term is the one after the second APPLY: 2 + 3 * (2 + size of the argument). */
+    private static void tokenLimitOfApply() {
+        Check.says("Description", "or if an extended term would have more than 300 tokens");
+        for (int merging = 0; merging < 2; merging++) {
+            for (int more = 90; more <= 110; more++) {
+                SubstitutionMachine x = appliedInside("L@@900", 64, more);
+                int peak = more + 2 + 3 * (2 + 64);
+                Check.due("machinePeak(" + merging + ")", x.machinePeak(merging), peak <= 300 ? peak : Check.NONE);
+                Check.due("machineSteps(3, " + merging + ")", x.machineSteps(3, merging), peak <= 300 ? 3 : Check.NONE);
+            }
+        }
+    }
+
+    /** The greatest extended term is the one after the last MERGE: each of its three entries has the argument. */
+    private static void tokenLimitOfMerge() {
+        Check.says("Description", "or if an extended term would have more than 300 tokens");
+        for (int more = 95; more <= 115; more++) {
+            SubstitutionMachine x = appliedInside("@@LLL900", 60, more);
+            int peak = more + 15 + 3 * 60;
+            Check.due("machinePeak(1)", x.machinePeak(1), peak <= 300 ? peak : Check.NONE);
+            Check.due("machineSteps(4, 1)", x.machineSteps(4, 1), peak <= 300 ? 2 : Check.NONE);
+        }
+        // With 101 and 89, two of the three entries make 300 tokens full.
+        for (int more = 80; more <= 90; more++) {
+            Check.due("machinePeak(1), far too large", appliedInside("@@LLL900", 101, more).machinePeak(1), Check.NONE);
         }
     }
 
@@ -204,14 +282,21 @@ public final class MachineEdges {
 
     public static void main(String[] args) {
         nothingToDo();
+        betas();
+        applies();
+        abstracts();
         lookups();
+        lookupsBesideARedex();
         noEntries();
         entriesInOrder();
         closureInClosure();
         mergedClosures();
+        mergedShifts();
         smallestPosition();
         stepLimit();
         tokenLimit();
+        tokenLimitOfApply();
+        tokenLimitOfMerge();
         firstTermCounts();
         rules();
         mergings();

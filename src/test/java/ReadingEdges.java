@@ -61,6 +61,25 @@ public final class ReadingEdges {
         Check.due("index 0 of 2, behind an abstraction", x.nameAt(9), 'b');
     }
 
+    private static void sizes() {
+        Check.says("Description", "The size of a term is its number of tokens.");
+        Check.due("size() of a variable", Check.with("9").size(), 1);
+        Check.due("size() of an abstraction", Check.with("L9").size(), 2);
+        Check.due("size() of an application", Check.with("@99").size(), 3);
+        Check.due("size() of a full text", Check.with("L".repeat(59) + "9").size(), 60);
+        Check.due("size() of three chains", Check.threeChains().size(), 176);
+    }
+
+    private static void firstPosition() {
+        Check.says("Description", "The position of a subterm is the index of its first token, starting at 0.");
+        SubstitutionMachine x = Check.with("@L@010");
+        Check.due("chosenRedex(0)", x.chosenRedex(0), 0);
+        Check.due("tokenAt(0)", x.tokenAt(0), SubstitutionMachine.APPLICATION);
+        Check.due("tokenAt(5)", x.tokenAt(5), 0);
+        Check.due("chosenRedex(0) at the end of 60 tokens", Check.with("L".repeat(56) + "@L00").chosenRedex(0), 56);
+        Check.due("chosenRedex(2) at the end of 200 tokens", Check.grown("@L00", 200).chosenRedex(2), 196);
+    }
+
     private static void fullTerm() {
         Check.says("Description", "The term of the object has at most 200 tokens.");
         SubstitutionMachine x = Check.grown("9", 200);
@@ -131,8 +150,16 @@ public final class ReadingEdges {
         Check.due("the name of index 10 in an abstraction", x.nameAt(1), 65 + 9);
     }
 
+    private static void namesOfAbstractions() {
+        Check.says("Promise 8", "an abstraction that stands inside d abstractions has the name a, b, c, ...");
+        SubstitutionMachine x = Check.with("@LL0L0");
+        Check.due("an abstraction in none", x.nameAt(1), 'a');
+        Check.due("an abstraction in 1", x.nameAt(2), 'b');
+        Check.due("an abstraction in none, behind others", x.nameAt(4), 'a');
+    }
+
     private static void redexes() {
-        Check.says("Promise 9", "Returns the number of redexes of the term.");
+        Check.says("Description", "A redex is an application whose function is an abstraction.");
         Check.due("a variable", Check.with("0").redexCount(), 0);
         Check.due("an abstraction that is an argument", Check.with("@0L0").redexCount(), 0);
         Check.due("an abstraction in the function", Check.with("@@0L00").redexCount(), 0);
@@ -214,11 +241,14 @@ public final class ReadingEdges {
         newObjectIsEmpty();
         boundOrFree();
         boundByWhich();
+        sizes();
+        firstPosition();
         fullTerm();
         positionsOfTokens();
         positionsOfNames();
         namesGoOn();
         freeNames();
+        namesOfAbstractions();
         redexes();
         strategiesOutOfRange();
         leftmostOutermost();

@@ -314,6 +314,12 @@ public final class ReductionEdges {
         x.abstractTerm();
         x.applyTo(0);
         Check.due("another last token", x.isEquivalent(0), 0);
+        x = Check.with("@L01");
+        x.save(0);
+        x.abstractTerm();
+        x.applyTo(0);
+        Check.due("normalTokenAt(0), the only one", x.normalTokenAt(0), 0);
+        Check.due("another first token", x.isEquivalent(0), 0);
         x = Check.with("@0L0");
         x.save(0);
         x.applyTo(0);

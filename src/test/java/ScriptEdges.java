@@ -138,6 +138,10 @@ public final class ScriptEdges {
         }
         SubstitutionMachine x = Check.with("@L0".repeat(12) + "0");
         dueScript(x, 4, 409237312409L, Check.NONE);
+        x = Check.with("@L0@L0@L00");
+        for (int s = 0; s < 4; s++) dueScript(x, 2, 100402L + 10 * s, Check.NONE);
+        dueScript(x, 4, 100100401430L, 3);
+        dueScript(x, 4, 500100402430L, Check.NONE);
         x = Check.justTooLarge();
         for (int s = 0; s < 4; s++) dueScript(x, 1, 400 + 10 * s, Check.NONE);
         x = Check.justNotTooLarge();
@@ -243,6 +247,11 @@ public final class ScriptEdges {
             Check.due("possibleStrategies() when it is replaced", x.possibleStrategies(), 15);
             Check.due("forgetAfter(50)", x.forgetAfter(50), 6);
         }
+        SubstitutionMachine x = new SubstitutionMachine();
+        int[] limits = {40, 0, 50, 20, 30, 10, 5};
+        for (int n : limits) x.observe(n, 1);
+        int[][] left = {{50, 6}, {49, 5}, {40, 5}, {30, 5}, {29, 4}, {19, 3}, {9, 2}, {4, 1}};
+        for (int[] pair : left) Check.due("forgetAfter(" + pair[0] + ")", x.forgetAfter(pair[0]), pair[1]);
     }
 
     private static void forgetRanges() {
